@@ -3,17 +3,39 @@ final class Check {
     private static final int MOST_PRINTED = 40;
     private static int answers = 0;
     private static int wrong = 0;
+    private static int sentences = 0;
+    private static int answersBefore = 0;
+    private static String sentence = "";
 
     private Check() {
+    }
+
+    /** The document's sentence that the answers from here on are due by. */
+    static void sentence(String words) {
+        endSentence();
+        sentences++;
+        sentence = words;
+    }
+
+    /** A sentence that no answer was looked at for would seem to hold, whatever the program does. */
+    private static void endSentence() {
+        if (sentences > 0 && answers == answersBefore) {
+            fail("\"" + sentence + "\" has no answers");
+        }
+        answersBefore = answers;
     }
 
     static void due(String what, long got, long want) {
         answers++;
         if (got != want) {
-            wrong++;
-            if (wrong <= MOST_PRINTED) {
-                System.out.println(what + " answered " + got + ", due is " + want);
-            }
+            fail(told(what) + " answered " + got + ", due is " + want);
+        }
+    }
+
+    static void same(String what, String got, String want) {
+        answers++;
+        if (!got.equals(want)) {
+            fail(told(what) + " answered\n" + got + ", due is\n" + want);
         }
     }
 
@@ -30,9 +52,22 @@ final class Check {
     }
 
     static void end() {
-        System.out.println(wrong == 0 ? "all " + answers + " answers are as due" : wrong + " of " + answers + " answers are not as due");
+        endSentence();
+        String by = sentences == 0 ? "" : " by " + sentences + " sentences";
+        System.out.println(wrong == 0 ? "all " + answers + " answers are as due" + by : wrong + " of " + answers + " answers are not as due");
         if (wrong != 0 || answers == 0) {
             System.exit(1);
+        }
+    }
+
+    private static String told(String what) {
+        return sentence.isEmpty() ? what : "\"" + sentence + "\": " + what;
+    }
+
+    private static void fail(String message) {
+        wrong++;
+        if (wrong <= MOST_PRINTED) {
+            System.out.println(message);
         }
     }
 }

@@ -10,17 +10,26 @@ final class Check {
     private Check() {
     }
 
-    /** The document's sentence that the answers from here on are due by. */
+    /**
+     * The document's words that the answers from here on are due by, behind the number of their
+     * promise if they stand in one; [..] stands where words are left out.
+     */
     static void sentence(String words) {
         endSentence();
         sentences++;
-        sentence = words;
+        sentence = "\"" + words + "\"";
+    }
+
+    /** One case of what the document's words say, where they have several. */
+    static void sentence(String words, String oneCase) {
+        sentence(words);
+        sentence += " (" + oneCase + ")";
     }
 
     /** A sentence that no answer was looked at for would seem to hold, whatever the program does. */
     private static void endSentence() {
         if (sentences > 0 && answers == answersBefore) {
-            fail("\"" + sentence + "\" has no answers");
+            fail(sentence + " has no answers");
         }
         answersBefore = answers;
     }
@@ -53,7 +62,7 @@ final class Check {
 
     static void end() {
         endSentence();
-        String by = sentences == 0 ? "" : " by " + sentences + " sentences";
+        String by = sentences == 0 ? "" : " in " + sentences + " tests of sentences";
         System.out.println(wrong == 0 ? "all " + answers + " answers are as due" + by : wrong + " of " + answers + " answers are not as due");
         if (wrong != 0 || answers == 0) {
             System.exit(1);
@@ -61,7 +70,7 @@ final class Check {
     }
 
     private static String told(String what) {
-        return sentence.isEmpty() ? what : "\"" + sentence + "\": " + what;
+        return sentence.isEmpty() ? what : sentence + ": " + what;
     }
 
     private static void fail(String message) {

@@ -71,7 +71,7 @@ public final class EdgeCountsTest {
     }
 
     private static void emptyAfterTheFilter() {
-        Check.sentence("(for lists that are empty it transfers nothing and holds none), after a filter that keeps none");
+        Check.sentence("(for lists that are empty it transfers nothing and holds none)", "after a filter that keeps none");
         FrameQueries q = Edge.counting(8, 24);
         q.filter(0, 3, 0);
         q.window(8, 0, 1);
@@ -85,7 +85,7 @@ public final class EdgeCountsTest {
     }
 
     private static void emptyAfterTheJoin() {
-        Check.sentence("(for lists that are empty it transfers nothing and holds none), after a join without pairs");
+        Check.sentence("(for lists that are empty it transfers nothing and holds none)", "after a join without pairs");
         FrameQueries q = Edge.counting(8, 5);
         Use.fillSame(q, 1, 1, 99);
         q.join(0, 0);
@@ -98,7 +98,7 @@ public final class EdgeCountsTest {
     }
 
     private static void filterTransfers() {
-        Check.sentence("FILTER. Transfers |n| + |k|, holds 2");
+        Check.sentence("FILTER. [..] Transfers |n| + |k|, holds 2");
         for (int rows = 1; rows <= 24; rows++) {
             for (int kept = 0; kept <= rows; kept++) {
                 FrameQueries q = Edge.counting(8, rows);
@@ -112,7 +112,7 @@ public final class EdgeCountsTest {
     }
 
     private static void filterOfNull() {
-        Check.sentence("FILTER. less, equal, greater (for NULL none holds)");
+        Check.sentence("The filter compares a column with a number: less, equal, greater (for NULL none holds)");
         for (int op = 0; op <= 2; op++) {
             int[] numbers = {Edge.MIN, Edge.MIN + 1, -1, 0, 1, Edge.MAX};
             for (int x : numbers) {
@@ -147,7 +147,7 @@ public final class EdgeCountsTest {
     }
 
     private static void sortHoldsFewer() {
-        Check.sentence("SORT holds M, or |n| if that is less");
+        Check.sentence("A SORT of n rows [..] holds M, or |n| if that is less");
         for (int frames = 3; frames <= 8; frames++) {
             for (int blocks = 1; blocks <= 6 && blocks <= frames; blocks++) {
                 tableSorted(frames, 4 * blocks, 0);
@@ -199,7 +199,7 @@ public final class EdgeCountsTest {
 
     /** Runs are merged on paper: so many in, so many out, until one is left. */
     private static void everySort() {
-        Check.sentence("A SORT of n rows (of every number of rows, in every number of frames)");
+        Check.sentence("A SORT of n rows", "of every number of rows, in every number of frames");
         for (int frames = 3; frames <= 8; frames++) {
             for (int rows = 1; rows <= 60; rows++) {
                 int runs = 0;
@@ -261,7 +261,7 @@ public final class EdgeCountsTest {
     }
 
     private static void largestPartition() {
-        Check.sentence("2 + the blocks of the largest partition: the first, one in between or the last");
+        Check.sentence("2 + the blocks of the largest partition", "the first, one in between or the last");
         partitions(5, 9, 1, 1);
         partitions(5, 1, 9, 1);
         partitions(5, 1, 1, 9);
@@ -277,7 +277,7 @@ public final class EdgeCountsTest {
     }
 
     private static void windowsOfSixtyRows() {
-        Check.sentence("To work a window out transfers 2 * |n| (for a full list of 60 rows)");
+        Check.sentence("To work a window out transfers 2 * |n|", "for a full list of 60 rows");
         FrameQueries q = Edge.joining(7, 60);
         q.window(0, 0, 1);
         q.over(0, 4, NONE, false);

@@ -46,7 +46,7 @@ public final class EdgeErrorTest {
     }
 
     private static void largestPartition() {
-        Check.sentence("A partition of more than 4 * (M - 2) rows: the query ends with ROOM (not one of as many)");
+        Check.sentence("A partition of more than 4 * (M - 2) rows: the query ends with ROOM", "not one of as many");
         for (int frames = 3; frames <= 8; frames++) {
             int most = 4 * (frames - 2);
             for (int rows = most - 1; rows <= most; rows++) {
@@ -78,7 +78,7 @@ public final class EdgeErrorTest {
     }
 
     private static void tooLargeForEveryFunction() {
-        Check.sentence("A partition of more than 4 * (M - 2) rows: the query ends with ROOM (whatever the function)");
+        Check.sentence("A partition of more than 4 * (M - 2) rows: the query ends with ROOM", "whatever the function");
         for (int f = 0; f <= 11; f++) {
             FrameQueries q = parted(3, 4);
             window(q, f, 0, 0, NONE);
@@ -91,7 +91,7 @@ public final class EdgeErrorTest {
     }
 
     private static void tooLargeAnywhere() {
-        Check.sentence("A partition of more than 4 * (M - 2) rows (the first, one in between, the last, that of NULL)");
+        Check.sentence("A partition of more than 4 * (M - 2) rows", "the first, one in between, the last, that of NULL");
         int[][] sizes = {{5, 1, 1}, {1, 5, 1}, {1, 1, 5}, {4, 4, 5}, {5, 5, 5}};
         for (int[] size : sizes) {
             FrameQueries q = parted(3, size);
@@ -112,7 +112,7 @@ public final class EdgeErrorTest {
     }
 
     private static void tooLargeWithoutAPartitionColumn() {
-        Check.sentence("A partition of more than 4 * (M - 2) rows (all rows, without a column)");
+        Check.sentence("A partition of more than 4 * (M - 2) rows", "all rows, without a column");
         FrameQueries q = Edge.counting(4, 8);
         window(q, ROW_NUMBER, 0, NONE, NONE);
         window(q, ROW_NUMBER, 0, NONE, 0);
@@ -131,7 +131,7 @@ public final class EdgeErrorTest {
     }
 
     private static void sumsThatAreInts() {
-        Check.sentence("A sum that is no int: the query ends with OVERFLOW (not the largest int, nor the smallest)");
+        Check.sentence("A sum that is no int: the query ends with OVERFLOW", "not the largest int, nor the smallest");
         Check.due("MAX", sumOf(MAX), 1);
         Check.due("MIN", sumOf(MIN), 1);
         Check.due("MAX - 1 + 1", sumOf(MAX - 1, 1), 2);
@@ -157,7 +157,7 @@ public final class EdgeErrorTest {
     }
 
     private static void sumsOfManyRows() {
-        Check.sentence("A sum that is no int (the farthest that 24 rows have)");
+        Check.sentence("A sum that is no int", "the farthest that 24 rows have");
         Integer[] many = new Integer[24];
         java.util.Arrays.fill(many, MAX);
         Check.due("24 * MAX", sumOf(many), OVERFLOW);
@@ -170,7 +170,7 @@ public final class EdgeErrorTest {
     }
 
     private static void sumsOfFramesAlone() {
-        Check.sentence("8 SUM of the row's FRAME: a sum that is no int (of a frame, not of the partition)");
+        Check.sentence("the others look at the row's FRAME [..] A sum that is no int: the query ends with OVERFLOW", "the sum of a frame, not of the partition");
         FrameQueries q = Edge.over(SUM, 1, MAX, 1, MIN, -1);
         Use.runs("all four rows", q, 4);
         Use.column("all four rows", q, 6, -1, -1, -1, -1);
@@ -191,7 +191,7 @@ public final class EdgeErrorTest {
     }
 
     private static void sumsOfLaterRows() {
-        Check.sentence("A sum that is no int (of the first row, of the last, of the last partition's last)");
+        Check.sentence("A sum that is no int", "of the first row, of the last, of the last partition's last");
         FrameQueries first = Edge.over(SUM, 1, MAX, 1, 0, 0);
         first.frame(0, false, 0, 1);
         Use.runs("the first row", first, OVERFLOW);
@@ -211,7 +211,7 @@ public final class EdgeErrorTest {
     }
 
     private static void windowsInTheirOrder() {
-        Check.sentence("The first error that comes up ends the query: windows in their order (of equal keys the lower number first)");
+        Check.sentence("The first error that comes up ends the query: windows in their order", "of equal keys the lower number first");
         FrameQueries q = bothErrors();
         window(q, ROW_NUMBER, 0, NONE, 2);
         window(q, SUM, 1, 0, NONE);
@@ -233,7 +233,7 @@ public final class EdgeErrorTest {
     }
 
     private static void windowsWithMoreKeys() {
-        Check.sentence("The first error that comes up ends the query: windows in their order (those with more keys first)");
+        Check.sentence("The first error that comes up ends the query: windows in their order", "those with more keys first");
         FrameQueries q = bothErrors();
         window(q, ROW_NUMBER, 0, NONE, NONE);
         window(q, SUM, 1, 0, NONE);
@@ -249,7 +249,7 @@ public final class EdgeErrorTest {
     }
 
     private static void laterWindows() {
-        Check.sentence("The first error that comes up ends the query (in the last window too)");
+        Check.sentence("The first error that comes up ends the query", "in the last window too");
         FrameQueries q = bothErrors();
         window(q, ROW_NUMBER, 0, 0, 2);
         window(q, ROW_NUMBER, 0, 0, NONE);
@@ -304,7 +304,7 @@ public final class EdgeErrorTest {
     }
 
     private static void joinBeforeWindows() {
-        Check.sentence("The first error that comes up ends the query (the join's before the windows')");
+        Check.sentence("The first error that comes up ends the query", "the join's before the windows'");
         FrameQueries q = new FrameQueries(8);
         for (int i = 0; i < 20; i++) {
             q.insert(0, 1, MAX, i, 0);
@@ -323,7 +323,7 @@ public final class EdgeErrorTest {
 
     /** Every error leaves the object as it was but for the result: the next run is as a new object's. */
     private static void nothingOfAnErrorStays() {
-        Check.sentence("11: ROOM or OVERFLOW when it ended so (and the query stays, and the tables do)");
+        Check.sentence("11: ROOM or OVERFLOW when it ended so", "and the query stays, and the tables do");
         FrameQueries q = bothErrors();
         window(q, SUM, 1, 0, NONE);
         window(q, SUM, 1, NONE, 2);

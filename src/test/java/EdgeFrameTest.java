@@ -88,7 +88,7 @@ public final class EdgeFrameTest {
     }
 
     private static void everyFrameByRows() {
-        Check.sentence("low is -9 .. 9, or -10 for no bound below; high is -9 .. 9, or 10 for no bound above (by ROWS)");
+        Check.sentence("low is -9 .. 9, or -10 for no bound below; high is -9 .. 9, or 10 for no bound above", "by ROWS");
         Integer[] values = new Integer[24];
         for (int i = 0; i < 24; i++) {
             values[i] = i;
@@ -106,7 +106,7 @@ public final class EdgeFrameTest {
     }
 
     private static void lowestAndHighestRows() {
-        Check.sentence("low is -9 .. 9, high is -9 .. 9 (the farthest bounds by ROWS, in 24 rows)");
+        Check.sentence("low is -9 .. 9, [..] high is -9 .. 9", "the farthest bounds by ROWS, in 24 rows");
         Integer[] values = new Integer[24];
         java.util.Arrays.fill(values, 1);
         FrameQueries q = framed(true, false, -9, 9, values);
@@ -118,14 +118,14 @@ public final class EdgeFrameTest {
     }
 
     private static void rowsWithNull() {
-        Check.sentence("by ROWS: those from i + low to i + high (rows with NULL in the order column like any other)");
+        Check.sentence("by ROWS: those from i + low to i + high", "rows with NULL in the order column like any other");
         Integer[] values = {null, null, MIN, 0};
         frames(false, false, -1, 1, values, rows(0, 1), rows(0, 2), rows(1, 3), rows(2, 3));
         frames(false, false, 2, 10, values, rows(2, 3), rows(3, 3), none(), none());
     }
 
     private static void rangeFromLowToHigh() {
-        Check.sentence("by RANGE: those whose value there, less the row's own, is from low to high");
+        Check.sentence("by RANGE (only with an order column): those whose value there, less the row's own [..] is from low to high");
         Integer[] values = {0, 2, 3, 5, 9, 14};
         frames(false, true, -2, 2, values, rows(0, 1), rows(0, 2), rows(1, 3), rows(2, 3), rows(4, 4), rows(5, 5));
         frames(false, true, -3, 1, values, rows(0, 0), rows(0, 2), rows(0, 2), rows(1, 3), rows(4, 4), rows(5, 5));
@@ -138,7 +138,7 @@ public final class EdgeFrameTest {
 
     /** A row with NULL has its peers where low is above high too: README.md says why. */
     private static void everyFrameByRange() {
-        Check.sentence("low is -9 .. 9, or -10 for no bound below; high is -9 .. 9, or 10 for no bound above (by RANGE)");
+        Check.sentence("low is -9 .. 9, or -10 for no bound below; high is -9 .. 9, or 10 for no bound above", "by RANGE");
         Integer[] up = {null, null, MIN, MIN + 9, MIN + 10, -10, -9, -1, 0, 0, 1, 9, 10, MAX - 10, MAX - 9, MAX};
         Integer[] down = new Integer[up.length];
         for (int i = 0; i < up.length; i++) {
@@ -176,7 +176,7 @@ public final class EdgeFrameTest {
     }
 
     private static void rangeDown() {
-        Check.sentence("(in the direction down: the row's own less theirs)");
+        Check.sentence("in the direction down: the row's own less theirs");
         Integer[] values = {14, 9, 5, 3, 2, 0};
         frames(true, true, -1, 2, values, rows(0, 0), rows(1, 1), rows(2, 3), rows(3, 4), rows(3, 5), rows(5, 5));
         frames(true, true, 1, 5, values, rows(1, 1), rows(2, 2), rows(3, 5), rows(4, 5), rows(5, 5), none());
@@ -186,7 +186,7 @@ public final class EdgeFrameTest {
     }
 
     private static void rangeNeverWrapping() {
-        Check.sentence("(never wrapping)");
+        Check.sentence("never wrapping");
         Integer[] values = {MIN, MIN + 9, MAX - 9, MAX};
         frames(false, true, -9, 9, values, rows(0, 1), rows(0, 1), rows(2, 3), rows(2, 3));
         frames(false, true, -10, 9, values, rows(0, 1), rows(0, 1), rows(0, 3), rows(0, 3));
@@ -210,7 +210,7 @@ public final class EdgeFrameTest {
     }
 
     private static void rangeOfDistances() {
-        Check.sentence("is from low to high (the bounds belong to it, the next numbers do not)");
+        Check.sentence("is from low to high", "the bounds belong to it, the next numbers do not");
         for (int bound = -9; bound <= 9; bound++) {
             FrameQueries at = Use.withTable0(8, new Integer[][] {{0, 0, 0}, {bound - 1, 1, 0}, {bound, 2, 0}, {bound + 1, 3, 0}});
             at.window(8, 1, 1);
@@ -224,7 +224,7 @@ public final class EdgeFrameTest {
     }
 
     private static void rangeOfEqualValues() {
-        Check.sentence("by RANGE: those whose value there, less the row's own, is from low to high (peers all alike)");
+        Check.sentence("by RANGE (only with an order column): those whose value there, less the row's own [..] is from low to high", "peers all alike");
         Integer[] values = {5, 5, 6, 6, 6};
         frames(false, true, 0, 0, values, rows(0, 1), rows(0, 1), rows(2, 4), rows(2, 4), rows(2, 4));
         frames(false, true, 1, 1, values, rows(2, 4), rows(2, 4), none(), none(), none());
@@ -261,7 +261,7 @@ public final class EdgeFrameTest {
     }
 
     private static void nothingButNull() {
-        Check.sentence("a row with NULL there has all its peers (in a list of nothing else)");
+        Check.sentence("a row with NULL there has all its peers", "in a list of nothing else");
         Integer[] values = {null, null, null};
         frames(false, true, 3, 4, values, rows(0, 2), rows(0, 2), rows(0, 2));
         frames(true, true, -10, 10, values, rows(0, 2), rows(0, 2), rows(0, 2));
@@ -282,14 +282,14 @@ public final class EdgeFrameTest {
     }
 
     private static void boundsOfNineAreBounds() {
-        Check.sentence("low is -9 .. 9, high is -9 .. 9 (-9 and 9 are bounds)");
+        Check.sentence("low is -9 .. 9, [..] high is -9 .. 9", "-9 and 9 are bounds");
         Integer[] values = {0, 9, 10, 11, 20, 21};
         frames(false, true, -9, 0, values, rows(0, 0), rows(0, 1), rows(1, 2), rows(1, 3), rows(3, 4), rows(4, 5));
         frames(false, true, 0, 9, values, rows(0, 1), rows(1, 3), rows(2, 3), rows(3, 4), rows(4, 5), rows(5, 5));
     }
 
     private static void lowAboveHighByRows() {
-        Check.sentence("9: where low is above high frames are empty (by ROWS)");
+        Check.sentence("9: where low is above high frames are empty", "by ROWS");
         Integer[] values = {null, 1, 1, 2};
         for (int low = -8; low <= 9; low++) {
             frames(false, false, low, low - 1, values, none(), none(), none(), none());
@@ -298,7 +298,7 @@ public final class EdgeFrameTest {
     }
 
     private static void lowAboveHighByRange() {
-        Check.sentence("9: where low is above high frames are empty (by RANGE)");
+        Check.sentence("9: where low is above high frames are empty", "by RANGE");
         Integer[] values = {MIN, 1, 1, 2, MAX};
         Integer[] down = {MAX, 2, 1, 1, MIN};
         for (int low = -8; low <= 9; low++) {
@@ -310,7 +310,7 @@ public final class EdgeFrameTest {
     }
 
     private static void lowAndHighTheSame() {
-        Check.sentence("9: from low to high (one number, where they are the same)");
+        Check.sentence("9: from low to high", "one number, where they are the same");
         Integer[] values = {1, 2, 4};
         frames(false, false, 0, 0, values, rows(0, 0), rows(1, 1), rows(2, 2));
         frames(false, false, 1, 1, values, rows(1, 1), rows(2, 2), none());
@@ -319,7 +319,7 @@ public final class EdgeFrameTest {
     }
 
     private static void functionsWithoutFrames() {
-        Check.sentence("the others look at the row's FRAME (0 to 5 do not)");
+        Check.sentence("the others look at the row's FRAME", "0 to 5 do not");
         Integer[][] want = {{1, 2, 3}, {1, 2, 2}, {1, 2, 2}, {1, 1, 2}, {null, 4, 6}, {6, 6, null}};
         for (int f = 0; f <= 5; f++) {
             FrameQueries q = Edge.over(f, f == 3 ? 2 : 1, 4, 6, 6);
@@ -334,7 +334,7 @@ public final class EdgeFrameTest {
     }
 
     private static void rangeInPartitions() {
-        Check.sentence("by RANGE: those (of the partition) whose value is from low to high");
+        Check.sentence("by RANGE (only with an order column): those whose value there, less the row's own [..] is from low to high", "of each partition its own rows");
         FrameQueries q = Use.withTable0(8, new Integer[][] {
             {1, 5, 1}, {1, 6, 2}, {1, null, 4}, {2, 5, 8}, {2, null, 16}, {2, 6, 32}, {null, 5, 64}, {null, null, 128},
         });
@@ -352,7 +352,7 @@ public final class EdgeFrameTest {
 
     /** The last row of sixty: a frame that begins behind it is sought where no row is. */
     private static void framesOfAFullList() {
-        Check.sentence("6 FIRST, 7 LAST: NULL if it is empty (behind the last row of a full list)");
+        Check.sentence("6 FIRST, 7 LAST: [..] NULL if it is empty", "behind the last row of a full list");
         FrameQueries q = new FrameQueries(8);
         Use.fillSame(q, 0, 6, 1);
         for (int i = 0; i < 10; i++) {

@@ -109,7 +109,7 @@ public final class EdgeJoinTest {
     }
 
     private static void roomAfterTheFilter() {
-        Check.sentence("JOIN of the k rows (those alone that the filter keeps make pairs)");
+        Check.sentence("of column x (0 .. 2) of the k rows", "those alone that the filter keeps make pairs");
         FrameQueries q = Edge.joining(4, 60);
         Use.fillSame(q, 0, 4, 2);
         Use.runs("64 pairs", q, Edge.ROOM);
@@ -120,7 +120,7 @@ public final class EdgeJoinTest {
     }
 
     private static void noKeptRows() {
-        Check.sentence("If k is 0, j is 0 and it transfers nothing and holds none");
+        Check.sentence("If k or u is 0, j is 0 and it transfers nothing and holds none", "k is 0");
         for (int frames = 3; frames <= 8; frames++) {
             FrameQueries q = Edge.counting(frames, 1);
             Use.fillCounting(q, 1, 24);
@@ -135,7 +135,7 @@ public final class EdgeJoinTest {
     }
 
     private static void noRowsInTable1() {
-        Check.sentence("If u is 0, j is 0 and it transfers nothing and holds none");
+        Check.sentence("If k or u is 0, j is 0 and it transfers nothing and holds none", "u is 0");
         for (int frames = 3; frames <= 8; frames++) {
             FrameQueries q = Edge.counting(frames, 24);
             q.join(0, 0);
@@ -189,7 +189,7 @@ public final class EdgeJoinTest {
     }
 
     private static void fitsOrNot() {
-        Check.sentence("if |q| <= M - 2 .. Otherwise both lists are parted into M - 1 PARTS");
+        Check.sentence("if |q| <= M - 2 [..] Otherwise both lists are parted into M - 1 PARTS");
         for (int frames = 3; frames <= 7; frames++) {
             int most = frames - 2;
             FrameQueries fits = unpaired(frames, 1, 4 * most);
@@ -207,7 +207,7 @@ public final class EdgeJoinTest {
     }
 
     private static void holdsWhatFits() {
-        Check.sentence("if |q| <= M - 2: holds |q| + 2");
+        Check.sentence("if |q| <= M - 2: [..] holds |q| + 2");
         int[] blocks = {1, 1, 1, 1, 2, 2, 2, 2, 3, 3, 3, 3, 4, 4, 4, 4, 5, 5, 5, 5, 6, 6, 6, 6};
         for (int rows = 1; rows <= 24; rows++) {
             FrameQueries q = unpaired(8, 1, rows);
@@ -248,7 +248,7 @@ public final class EdgeJoinTest {
     }
 
     private static void groupsForEachBlockOfTable0() {
-        Check.sentence("at level 2: |p| for each full or begun group");
+        Check.sentence("at level 2: [..] |p| for each full or begun group of M - 2 blocks of the |q|", "for each block of table 0");
         for (int rows = 1; rows <= 12; rows++) {
             FrameQueries o = new FrameQueries(3);
             Use.fillSame(o, 0, rows, 9);
@@ -291,7 +291,7 @@ public final class EdgeJoinTest {
     }
 
     private static void partsOfNull() {
-        Check.sentence("rows with NULL are in none (lists of nothing else)");
+        Check.sentence("rows with NULL are in none", "lists of nothing else");
         FrameQueries q = new FrameQueries(3);
         for (int i = 0; i < 9; i++) {
             q.insert(0, 0, 0, 0, 1);
@@ -313,7 +313,7 @@ public final class EdgeJoinTest {
     }
 
     private static void nullInNoPart() {
-        Check.sentence("rows with NULL are in none (beside others)");
+        Check.sentence("rows with NULL are in none", "beside others");
         FrameQueries q = new FrameQueries(4);
         Use.fillSame(q, 0, 1, 5);
         Use.fillSame(q, 1, 8, 5);
@@ -352,7 +352,7 @@ public final class EdgeJoinTest {
 
     /** Two values, nine rows and thirteen of table 1: in one part they stay six blocks, in two they are seven. */
     private static void partsOfExtremes() {
-        Check.sentence("h = (v exclusive-or v >>> 16) * 73244475 (wrapping), the rest of h >>> (3 + 7 * level) divided by M - 1");
+        Check.sentence("with h = (v exclusive-or v >>> 16) * 73244475 (wrapping), it is the rest of h >>> (3 + 7 * level) divided by M - 1");
         for (int frames = 3; frames <= 7; frames++) {
             for (int[] nine : PARTS) {
                 for (int[] thirteen : PARTS) {

@@ -61,7 +61,7 @@ public final class EdgeQueryTest {
 
     /** Each part alone, so that no other part of the query hides that it stays. */
     private static void queryTakesEachPartAway() {
-        Check.sentence("4: The query becomes the empty one (no filter, join, windows and order)");
+        Check.sentence("4: The query becomes the empty one", "no filter, join, windows and order");
         isEmptyAfter("a filter", q -> q.filter(0, 1, 2));
         isEmptyAfter("a join", q -> q.join(0, 0));
         isEmptyAfter("a window", q -> q.window(0, 0, 1) == 0 && q.over(0, 0, 1, true));
@@ -82,7 +82,7 @@ public final class EdgeQueryTest {
     }
 
     private static void queryLeavesTheRest() {
-        Check.sentence("4: The query becomes the empty one (and nothing else changes)");
+        Check.sentence("4: The query becomes the empty one", "and nothing else changes");
         Edge.leavesTheResult("query()", q -> {
             q.query();
             return true;
@@ -183,7 +183,7 @@ public final class EdgeQueryTest {
     }
 
     private static void joinTakesThePlace() {
-        Check.sentence("6: The query's join (in place of one that it has)");
+        Check.sentence("6: The query's join", "in place of one that it has");
         FrameQueries q = Use.withTable0(4, new Integer[][] {{1, 2, 3}});
         Use.fill(q, 1, new Integer[][] {{1, 9, 2}, {9, 9, 2}});
         q.join(0, 0);
@@ -288,7 +288,7 @@ public final class EdgeQueryTest {
     }
 
     private static void windowThreeAreThere() {
-        Check.sentence("7: NONE, changing nothing, when three are there");
+        Check.sentence("7: NONE, changing nothing, when [..] three are there");
         Edge.changesNothing("a fourth window", Edge::busyWithThreeWindows, q -> q.window(0, 0, 1) == NONE);
         Edge.changesNothing("a fourth window", Edge::busyWithThreeWindows, q -> q.window(8, 2, 9) == NONE);
     }
@@ -332,7 +332,7 @@ public final class EdgeQueryTest {
     }
 
     private static void overNoWindow() {
-        Check.sentence("8: Window w (one that there is)");
+        Check.sentence("8: Window w", "one that there is");
         for (int w : Edge.outside(0, 1)) {
             Edge.changesNothing("over(" + w + ", ..) of two", Edge::busy, q -> !q.over(w, 1, 2, false));
         }
@@ -348,7 +348,7 @@ public final class EdgeQueryTest {
     }
 
     private static void overRangeNeedsOrder() {
-        Check.sentence("8: False, changing nothing, when its frame is by RANGE and order is NONE");
+        Check.sentence("8: False, changing nothing, when [..] its frame is by RANGE and order is NONE");
         for (int partition = NONE; partition <= 5; partition++) {
             int column = partition;
             Edge.changesNothing("over(0, " + column + ", NONE, false)", Edge::busy, q -> !q.over(0, column, NONE, false));
@@ -363,7 +363,7 @@ public final class EdgeQueryTest {
     }
 
     private static void frameTakes() {
-        Check.sentence("9: from low (-10 .. 9) to high (-9 .. 10)");
+        Check.sentence("9: from low (-10 .. 9) to high (-9 .. 10;");
         for (int low = -10; low <= 9; low++) {
             for (int high = -9; high <= 10; high++) {
                 FrameQueries q = new FrameQueries(4);
@@ -391,7 +391,7 @@ public final class EdgeQueryTest {
     }
 
     private static void frameNoWindow() {
-        Check.sentence("9: Window w (one that there is)");
+        Check.sentence("9: Window w", "one that there is");
         for (int w : Edge.outside(0, 1)) {
             Edge.changesNothing("frame(" + w + ", ..) of two", Edge::busy, q -> !q.frame(w, false, 0, 0));
             Edge.changesNothing("frame(" + w + ", ..) of two", Edge::busy, q -> !q.frame(w, true, 0, 0));
@@ -414,7 +414,7 @@ public final class EdgeQueryTest {
     }
 
     private static void frameRangeNeedsOrder() {
-        Check.sentence("9: False, changing nothing, when range without an order column");
+        Check.sentence("9: False, changing nothing, when [..] range without an order column");
         Edge.changesNothing("frame(1, true, 0, 0)", EdgeQueryTest::busyWithoutOrderColumn, q -> !q.frame(1, true, 0, 0));
         Edge.changesNothing("frame(1, true, -10, 10)", EdgeQueryTest::busyWithoutOrderColumn, q -> !q.frame(1, true, -10, 10));
         Edge.changesNothing("frame(2, true, 1, 0)", Edge::busyWithThreeWindows, q -> !q.frame(2, true, 1, 0));
@@ -428,7 +428,7 @@ public final class EdgeQueryTest {
     }
 
     private static void orderTakes() {
-        Check.sentence("10: column c (0 .. 8), up or down");
+        Check.sentence("10: column c (0 .. 8; [..] up or down");
         Integer[][] rows = {{2, 1, 3}, {1, 3, 2}, {3, 2, 1}};
         for (int c = 0; c <= 8; c++) {
             for (int turn = 0; turn < 2; turn++) {
@@ -468,7 +468,7 @@ public final class EdgeQueryTest {
     }
 
     private static void orderTakesThePlace() {
-        Check.sentence("10: The query's order (in place of one that it has)");
+        Check.sentence("10: The query's order", "in place of one that it has");
         FrameQueries q = Use.withTable0(4, new Integer[][] {{2, 7, 0}, {1, 7, 0}, {3, 8, 0}});
         q.order(0, false);
         q.order(1, true);

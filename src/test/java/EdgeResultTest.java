@@ -131,7 +131,7 @@ public final class EdgeResultTest {
     }
 
     private static void answersRoom() {
-        Check.sentence("11: ROOM when it ended so (then there is no result, and nothing was transferred or held)");
+        Check.sentence("11: ROOM [..] when it ended so (then there is no result, and nothing was transferred or held)");
         endsWithNothing("ROOM in the first run", roomy(), ROOM);
         FrameQueries q = Edge.counting(3, 5);
         Use.runs("a result before", q, 5);
@@ -155,7 +155,7 @@ public final class EdgeResultTest {
     }
 
     private static void runsAfterAnError() {
-        Check.sentence("11: Runs the query (after one that ended with an error, as after any other)");
+        Check.sentence("11: Runs the query", "after one that ended with an error, as after any other");
         FrameQueries after = Edge.over(8, 1, MAX, 1, 5, 6);
         FrameQueries fresh = Edge.over(8, 1, MAX, 1, 5, 6);
         Use.runs("OVERFLOW", after, OVERFLOW);
@@ -215,7 +215,7 @@ public final class EdgeResultTest {
     }
 
     private static void cellThatIsNot() {
-        Check.sentence("12: 0 when there is none");
+        Check.sentence("12: 0 when [..] there is none");
         FrameQueries q = oneRow();
         for (int c : Edge.outside(0, 8)) {
             Check.due("cell(0, " + c + ")", q.cell(0, c), 0);
@@ -237,7 +237,7 @@ public final class EdgeResultTest {
     }
 
     private static void cellsOfLargeResults() {
-        Check.sentence("12: row r of the latest run's result (of sixty rows too)");
+        Check.sentence("12: row r of the latest run's result", "of sixty rows too");
         FrameQueries q = new FrameQueries(8);
         Use.fillSame(q, 0, 3, 1);
         for (int i = 0; i < 20; i++) {
@@ -255,7 +255,7 @@ public final class EdgeResultTest {
     }
 
     private static void isNullOfACell() {
-        Check.sentence("13: Whether there is this column of this row, and it is NULL");
+        Check.sentence("13: Whether there is this column of this row of the latest run's result, and it is NULL");
         FrameQueries q = oneRow();
         boolean[] want = {false, true, false, false, true, false, false, true, true};
         for (int c = 0; c <= 8; c++) {
@@ -269,7 +269,7 @@ public final class EdgeResultTest {
     }
 
     private static void isNullOfNoCell() {
-        Check.sentence("13: Whether there is this column of this row (if not, false)");
+        Check.sentence("13: Whether there is this column of this row", "if not, false");
         FrameQueries q = oneRow();
         for (int c : Edge.outside(0, 8)) {
             Check.no("isNull(0, " + c + ")", q.isNull(0, c));
@@ -347,7 +347,7 @@ public final class EdgeResultTest {
     }
 
     private static void sortsByNoKeys() {
-        Check.sentence("16: How many sorts the latest run made (by no keys, too)");
+        Check.sentence("16: How many sorts the latest run made", "by no keys, too");
         FrameQueries q = Edge.counting(4, 3);
         Use.runs("by origin", q, 3);
         Check.due("by origin", q.sorts(), 1);
@@ -360,7 +360,7 @@ public final class EdgeResultTest {
     }
 
     private static void mostSorts() {
-        Check.sentence("16: How many sorts the latest run made (one for each window and one for the order at most)");
+        Check.sentence("16: How many sorts the latest run made", "one for each window and one for the order at most");
         FrameQueries q = Edge.counting(4, 3);
         for (int w = 0; w < 3; w++) {
             q.window(0, 0, 1);

@@ -230,7 +230,7 @@ public final class EdgeTablesTest {
     }
 
     private static void insertWrongNulls() {
-        Check.sentence("2: False, changing nothing, when nulls is not 0 .. 7");
+        Check.sentence("2: False, changing nothing, when [..] nulls is not 0 .. 7");
         for (int nulls : Edge.outside(0, 7)) {
             Edge.changesNothing("insert(0, .., " + nulls + ")", Edge::busy, q -> !q.insert(0, 1, 1, 1, nulls));
             Edge.changesNothing("insert(1, .., " + nulls + ")", Edge::busy, q -> !q.insert(1, 1, 1, 1, nulls));
@@ -253,7 +253,7 @@ public final class EdgeTablesTest {
     }
 
     private static void insertIntoAFullTable() {
-        Check.sentence("2: False, changing nothing, when 24 rows are there");
+        Check.sentence("2: False, changing nothing, when [..] 24 rows are there");
         for (int t = 0; t < 2; t++) {
             int table = t;
             Edge.changesNothing("row 24 of table " + t, EdgeTablesTest::full, q -> !q.insert(table, 1, 1, 1, 0));

@@ -37,7 +37,7 @@ public final class EdgeWindowTest {
     }
 
     private static void columnsOfWindows() {
-        Check.sentence("6 .. 8 the results of its windows 0 .. 2 (NULL in the columns of windows that there are not)");
+        Check.sentence("6 .. 8 the results of its windows 0 .. 2", "NULL in the columns of windows that there are not");
         for (int windows = 0; windows <= 3; windows++) {
             FrameQueries q = Edge.counting(4, 2);
             q.window(0, 0, 1);
@@ -57,7 +57,7 @@ public final class EdgeWindowTest {
     }
 
     private static void nullIsLess() {
-        Check.sentence("NULL is less than every int, where values are ordered");
+        Check.sentence("NULL is less than every int [..] where values are ordered");
         FrameQueries q = Use.withTable0(4, new Integer[][] {{MIN, 0, 0}, {null, 0, 0}, {MAX, 0, 0}, {-1, 0, 0}, {null, 1, 0}, {0, 0, 0}});
         q.order(0, false);
         Use.runs("up", q, 6);
@@ -78,7 +78,7 @@ public final class EdgeWindowTest {
     }
 
     private static void nullIsEqual() {
-        Check.sentence("NULL is equal to NULL, where values are ordered or parted");
+        Check.sentence("NULL is [..] equal to NULL, where values are ordered or parted");
         FrameQueries q = Use.withTable0(4, new Integer[][] {{null, 3, 0}, {MIN, 2, 0}, {null, 1, 0}, {0, 0, 0}});
         q.window(9, 1, 1);
         q.over(0, 0, NONE, false);
@@ -94,7 +94,7 @@ public final class EdgeWindowTest {
     }
 
     private static void extremesInOrder() {
-        Check.sentence("ints are ordered by their size, the smallest and the largest too");
+        Check.sentence("A SORT of n rows is by the keys, in their directions", "the smallest int and the largest");
         FrameQueries q = Use.withTable0(4, new Integer[][] {{MAX, 0, 0}, {MIN, 0, 0}, {1, 0, 0}, {MAX - 1, 0, 0}, {-1, 0, 0}, {MIN + 1, 0, 0}});
         q.order(0, false);
         Use.runs("up", q, 6);
@@ -200,7 +200,7 @@ public final class EdgeWindowTest {
     }
 
     private static void otherDirections() {
-        Check.sentence("the directions the same (a partition column has the direction up)");
+        Check.sentence("the directions the same", "a partition column has the direction up");
         Check.due("order up and down", sorts(0, 1, 0, 0, 1, 1), 2);
         Check.due("order down twice", sorts(0, 1, 1, 0, 1, 1), 1);
         Check.due("partition up, order up", sorts(0, NONE, 0, NONE, 0, 0), 1);
@@ -227,7 +227,7 @@ public final class EdgeWindowTest {
     }
 
     private static void orderByTheFirstKey() {
-        Check.sentence("the list is sorted by its column unless it is ordered by keys the first of which is this one in this direction");
+        Check.sentence("the list is sorted by its column, in its direction, unless it is ordered by keys the first of which is this one in this direction");
         int[][] overOrderAndSorts = {
             // partition, order column, down; the order's column and down; sorts
             {0, 1, 0, 0, 0, 1}, {0, 1, 1, 0, 0, 1}, {0, 1, 0, 0, 1, 2}, {0, 1, 0, 1, 0, 2}, {0, 1, 1, 1, 1, 2},
@@ -339,7 +339,7 @@ public final class EdgeWindowTest {
     }
 
     private static void tilesWithTooFewRows() {
-        Check.sentence("3 TILE: the number of the row's tile from 1 on (with fewer rows than tiles, as many, and one more)");
+        Check.sentence("3 TILE: [..] the number of the row's tile from 1 on", "with fewer rows than tiles, as many, and one more");
         Integer[] three = {7, 8, 9};
         Integer[] four = {6, 7, 8, 9};
         int[] tiles = {1, 2, 3, 4, 9};
@@ -356,7 +356,7 @@ public final class EdgeWindowTest {
     }
 
     private static void lags() {
-        Check.sentence("4 LAG: the value of the argument column in the row n before it, NULL if there is none");
+        Check.sentence("4 LAG, [..] the value of the argument column in the row n before it, [..] NULL if there is none");
         for (int n = 1; n <= 9; n++) {
             FrameQueries q = Edge.counting(8, 11);
             q.window(4, 1, n);
@@ -372,7 +372,7 @@ public final class EdgeWindowTest {
     }
 
     private static void leads() {
-        Check.sentence("5 LEAD: the value of the argument column in the row n behind it, NULL if there is none");
+        Check.sentence("5 LEAD: the value of the argument column in the row [..] n behind it, NULL if there is none");
         for (int n = 1; n <= 9; n++) {
             FrameQueries q = Edge.counting(8, 11);
             q.window(5, 0, n);
@@ -388,7 +388,7 @@ public final class EdgeWindowTest {
     }
 
     private static void neighboursInAPartition() {
-        Check.sentence("For row i (from 0 on) of a partition of c rows (no other partition's rows are looked at)");
+        Check.sentence("For row i (from 0 on) of a partition of c rows", "no other partition's rows are looked at");
         FrameQueries q = Use.withTable0(5, new Integer[][] {{1, 0, 10}, {1, 0, 11}, {2, 0, 20}, {3, 0, 30}, {3, 0, 31}});
         int[] functions = {4, 5, 6, 7, 8, 0, 3};
         Integer[][] want = {
@@ -429,7 +429,7 @@ public final class EdgeWindowTest {
     }
 
     private static void nullValuesDoNotCount() {
-        Check.sentence("8 SUM, 10 LEAST, 11 GREATEST of the values that are not NULL; 9 COUNT of them");
+        Check.sentence("8 SUM, 10 LEAST, 11 GREATEST of the values that are not NULL, [..] 9 COUNT of them");
         overAll(8, 7, null, 3, null, 4);
         overAll(8, 0, 0, null);
         overAll(9, 2, null, 3, null, 4);
@@ -442,7 +442,7 @@ public final class EdgeWindowTest {
     }
 
     private static void noValues() {
-        Check.sentence("8 SUM, 10 LEAST, 11 GREATEST: NULL if there are none; 9 COUNT (0 then)");
+        Check.sentence("8 SUM, 10 LEAST, 11 GREATEST of the values that are not NULL, NULL if there are none", "COUNT is 0 then");
         int[] functions = {8, 10, 11};
         for (int f : functions) {
             overAll(f, null, null, null);
@@ -459,7 +459,7 @@ public final class EdgeWindowTest {
     }
 
     private static void largestSums() {
-        Check.sentence("8 SUM (the largest int and the smallest are sums)");
+        Check.sentence("8 SUM", "the largest int and the smallest are sums");
         overAll(8, MAX, MAX);
         overAll(8, MIN, MIN);
         overAll(8, MAX, MAX - 1, 1);
@@ -470,7 +470,7 @@ public final class EdgeWindowTest {
     }
 
     private static void extremesFound() {
-        Check.sentence("10 LEAST, 11 GREATEST (of the largest int and the smallest)");
+        Check.sentence("10 LEAST, 11 GREATEST", "of the largest int and the smallest");
         overAll(10, MIN, MAX, MIN, 0);
         overAll(11, MAX, MIN, MAX, 0);
         overAll(10, MIN, MIN, null, MIN + 1);
@@ -480,7 +480,7 @@ public final class EdgeWindowTest {
     }
 
     private static void oneRow() {
-        Check.sentence("For row i (from 0 on) of a partition of c rows (of one row)");
+        Check.sentence("For row i (from 0 on) of a partition of c rows", "of one row");
         Integer[] want = {1, 1, 1, 1, null, null, 5, 5, 5, 1, 5, 5};
         for (int f = 0; f <= 11; f++) {
             for (int n = 1; n <= 9; n++) {

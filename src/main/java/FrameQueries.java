@@ -452,8 +452,11 @@ public final class FrameQueries {
             int blocks = blocksOf(rowCount);
             int ways = frames - 1;
             addStep(2 * blocks, Math.min(frames, blocks));
-            for (int runs = quotientUp(blocks, frames); runs > 1; runs = quotientUp(runs, ways)) {
+            int runs = quotientUp(blocks, frames);
+            // each pass leaves fewer runs, so there are fewer passes than blocks
+            for (int pass = 1; pass < blocks && runs > 1; pass++) {
                 addStep(2 * blocks, 1 + Math.min(runs, ways));
+                runs = quotientUp(runs, ways);
             }
         }
     }
